@@ -311,8 +311,9 @@ public final class LandingGears {
             return wanted < 5 || wanted > 40 ? 15 : wanted;
         }
 
-        int greatestLength(int first) {
-            return Math.max(length[first], Math.max(length[first + 1], length[first + 2]));
+        /** The left one is as long as the right one, so two are enough. */
+        int greatestLength(int front) {
+            return Math.max(length[front], length[front + 1]);
         }
 
         int moveHandle(int down) {
@@ -631,7 +632,8 @@ public final class LandingGears {
         }
 
         private void come(int next) {
-            if (stage == GAP && next == OPENING) {
+            // Only an AGAIN that is used up leaves GAP: the other way out, to CLOSING, has none.
+            if (stage == GAP) {
                 again = 0;
             }
             stage = next;

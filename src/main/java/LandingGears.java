@@ -467,11 +467,11 @@ public final class LandingGears {
         }
 
         boolean allSeen(int first) {
-            return isSeen(first) && isSeen(first + 1) && isSeen(first + 2);
+            return seen[first] == 1 && seen[first + 1] == 1 && seen[first + 2] == 1;
         }
 
         boolean someSeen(int first) {
-            return isSeen(first) || isSeen(first + 1) || isSeen(first + 2);
+            return seen[first] == 1 || seen[first + 1] == 1 || seen[first + 2] == 1;
         }
 
         boolean someInvalid() {

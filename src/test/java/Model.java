@@ -42,6 +42,10 @@ final class Model {
         return halves[0].orders() | halves[1].orders();
     }
 
+    boolean safe() {
+        return scrapes == 0 && !clash;
+    }
+
     boolean open(int door) {
         return place[door] == length[door];
     }

@@ -1,9 +1,12 @@
 import java.util.Random;
 
-/** Long runs of calls, chosen by fixed seeds, with every answer beside that of the plain model. */
+/**
+ * Runs of calls, chosen by fixed seeds, beside the plain model: one look behind each call, and a look at everything in
+ * the end. That is 501 calls of an object at most: what one answers behind its 512th is free.
+ */
 public final class ModelTest {
-    private static final int OBJECTS = 1500;
-    private static final int CALLS = 90;
+    private static final int OBJECTS = 20000;
+    private static final int CALLS = 70;
 
     public static void main(String[] args) {
         int[] causes = new int[10];
@@ -29,18 +32,17 @@ public final class ModelTest {
             x.ground(0);
             y.ground = 0;
         }
-        for (int i = 0; i < CALLS; i++) {
+        int calls = 1 + choice.nextInt(CALLS);
+        for (int i = 0; i < calls; i++) {
             String at = "object " + seed + " call " + i + ": ";
             if (choice.nextInt(100) < faultsInHundred) {
                 fault(at, choice, x, y);
             } else {
                 move(at, choice, x, y);
             }
-            compare(at, x, y);
-            if (Due.wrong() > 0) {
-                return;
-            }
+            look(at, choice, x, y);
         }
+        compare("object " + seed + " in the end: ", x, y);
         causes[y.halves[0].cause]++;
         causes[y.halves[1].cause]++;
     }
@@ -119,44 +121,69 @@ public final class ModelTest {
         }
     }
 
+    /** One answer, of any call that changes nothing. */
+    private static void look(String at, Random choice, LandingGears x, Model y) {
+        int m = choice.nextInt(2);
+        int s = choice.nextInt(18);
+        switch (choice.nextInt(8)) {
+            case 0: comparePlant(at, x, y, s); break;
+            case 1: compareAbout(at, x, y, m, s % 7); break;
+            case 2: compareSees(at, x, y, m, s, choice.nextInt(2)); break;
+            case 3: compareTells(at, x, y, s, s % 3); break;
+            case 4: Due.is(at + "lights", x.lights(), y.lights); break;
+            case 5: Due.is(at + "logged", x.logged(), y.log.size()); break;
+            case 6: compareLog(at, x, y, y.log.size() - choice.nextInt(67), s % 3); break;
+            default: Due.is(at + "safe", x.safe(), y.safe());
+        }
+    }
+
     private static void compare(String at, LandingGears x, Model y) {
-        for (int k = 0; k < 6; k++) {
-            Due.is(at + "place " + k, x.plant(k), y.place[k]);
-        }
-        for (int v = 0; v < 5; v++) {
-            Due.is(at + "pressure " + v, x.plant(6 + v), y.pressure[v]);
-        }
-        int[] rest = {y.level, y.hold, y.handle, y.ground, y.ticks, y.scrapes, y.orders()};
-        for (int i = 0; i < rest.length; i++) {
-            Due.is(at + "plant(" + (11 + i) + ")", x.plant(11 + i), rest[i]);
-        }
-        for (int m = 0; m < 2; m++) {
-            compareModule(at + "module " + m + " ", x, m, y.halves[m]);
-        }
         for (int s = 0; s < 18; s++) {
+            comparePlant(at, x, y, s);
             for (int c = 0; c < 3; c++) {
-                Due.is(at + "tells " + s, x.tells(s, c), y.tells(s, c) ? 1 : 0);
+                compareTells(at, x, y, s, c);
             }
+            for (int m = 0; m < 2; m++) {
+                compareSees(at, x, y, m, s, 0);
+                compareSees(at, x, y, m, s, 1);
+            }
+        }
+        for (int i = 0; i < 14; i++) {
+            compareAbout(at, x, y, i / 7, i % 7);
         }
         Due.is(at + "lights", x.lights(), y.lights);
         Due.is(at + "logged", x.logged(), y.log.size());
-        for (int i = y.log.size() - 66; i <= y.log.size(); i++) {
+        Due.is(at + "safe", x.safe(), y.safe());
+        for (int i = y.log.size() - 65; i <= y.log.size(); i++) {
             for (int what = 0; what < 3; what++) {
-                Due.is(at + "log(" + i + ", " + what + ")", x.log(i, what), y.row(i, what));
+                compareLog(at, x, y, i, what);
             }
         }
-        Due.is(at + "safe", x.safe(), y.scrapes == 0 && !y.clash);
     }
 
-    private static void compareModule(String at, LandingGears x, int m, Model.Half y) {
-        int[] about = {y.stage, Math.min(99, y.age), y.goalDown ? 1 : 0, y.orders(), y.cause,
-            y.again ? 1 : 0, y.dead ? 1 : 0};
-        for (int what = 0; what < about.length; what++) {
-            Due.is(at + "about " + what, x.about(m, what), about[what]);
-        }
-        for (int s = 0; s < 18; s++) {
-            Due.is(at + "sees " + s, x.sees(m, s, 0), y.seen[s] ? 1 : 0);
-            Due.is(at + "channels in of " + s, x.sees(m, s, 1), y.in[s]);
-        }
+    private static void comparePlant(String at, LandingGears x, Model y, int what) {
+        int[] rest = {y.level, y.hold, y.handle, y.ground, y.ticks, y.scrapes, y.orders()};
+        int due = what < 6 ? y.place[what] : what < 11 ? y.pressure[what - 6] : rest[what - 11];
+        Due.is(at + "plant " + what, x.plant(what), due);
+    }
+
+    private static void compareAbout(String at, LandingGears x, Model y, int m, int what) {
+        Model.Half half = y.halves[m];
+        int[] due = {half.stage, Math.min(99, half.age), half.goalDown ? 1 : 0, half.orders(), half.cause,
+            half.again ? 1 : 0, half.dead ? 1 : 0};
+        Due.is(at + "about " + what, x.about(m, what), due[what]);
+    }
+
+    private static void compareSees(String at, LandingGears x, Model y, int m, int s, int what) {
+        Model.Half half = y.halves[m];
+        Due.is(at + "sees " + s, x.sees(m, s, what), what == 1 ? half.in[s] : half.seen[s] ? 1 : 0);
+    }
+
+    private static void compareTells(String at, LandingGears x, Model y, int s, int c) {
+        Due.is(at + "tells " + s, x.tells(s, c), y.tells(s, c) ? 1 : 0);
+    }
+
+    private static void compareLog(String at, LandingGears x, Model y, int i, int what) {
+        Due.is(at + "log of " + i, x.log(i, what), y.row(i, what));
     }
 }

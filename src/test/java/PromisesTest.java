@@ -22,7 +22,6 @@ public final class PromisesTest {
         promise14Tells();
         promise15Lights();
         promise16Log();
-        promise16LogKeepsSixtyFour();
         promise17Logged();
         promise18Bound();
         promise19Scrape();
@@ -518,35 +517,6 @@ public final class PromisesTest {
         Due.is("an anomaly's tick", x.log(18, 0), 152);
         Due.is("an anomaly's module", x.log(19, 1), 1);
         Due.is("an anomaly's cause", x.log(18, 2), 11);
-    }
-
-    private static void promise16LogKeepsSixtyFour() {
-        LandingGears x = goingUp();
-        x.module(1, 1);
-        int down = 0;
-        while (x.logged() < 64) {
-            x.run(1);
-            if (x.logged() < 64 && x.about(0, 0) == 0) {
-                down = 1 - down;
-                x.handle(down);
-            }
-        }
-        Due.is("the first of 64 rows", x.log(0, 0), 1);
-        Due.is("the last of 64 rows is kept", x.log(63, 1), 0);
-        Due.is("no further row", x.log(64, 0), NONE);
-        int secondTick = x.log(1, 0);
-        while (x.logged() < 65) {
-            x.run(1);
-            if (x.about(0, 0) == 0) {
-                down = 1 - down;
-                x.handle(down);
-            }
-        }
-        Due.is("the first of 65 rows is gone", x.log(0, 0), NONE);
-        Due.is("the second of 65 rows", x.log(1, 0), secondTick);
-        Due.is("the last of 65 rows", x.log(64, 0), x.plant(15));
-        Due.is("no further row", x.log(65, 0), NONE);
-        Due.is("BAD of a row that is gone", x.log(0, 3), BAD);
     }
 
     private static void promise17Logged() {

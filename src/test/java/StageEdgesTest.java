@@ -37,6 +37,7 @@ public final class StageEdgesTest {
         greenByAllGears();
         orangeBySomeGear();
         redByOneModule();
+        redWithoutGreen();
         lightsOfOneOfBoth();
         Due.end();
     }
@@ -258,15 +259,18 @@ public final class StageEdgesTest {
 
     /** "A stage is 0 ticks old in the tick in which it is come to, one tick older in each further one" */
     private static void agesFromZero() {
-        int[] comeTo = {1, 3, 41, 42, 66, 67, 68, 92, 102, 999};
+        int[] comeTo = {1, 3, 41, 42, 66, 67, 68, 92, 102};
         LandingGears x = Ways.goingUp();
-        int next = 0;
-        for (int tick = 1; tick <= 130; tick++) {
-            x.run(1);
-            if (tick == comeTo[next + 1]) {
-                next++;
+        for (int i = 0; i < comeTo.length; i++) {
+            int next = i + 1 < comeTo.length ? comeTo[i + 1] : 130;
+            Ways.to(x, comeTo[i]);
+            about("come to", x, Ways.AGE, 0);
+            if (next > comeTo[i] + 1) {
+                x.run(1);
+                about("one tick older", x, Ways.AGE, 1);
+                Ways.to(x, next - 1);
+                about("the last tick", x, Ways.AGE, next - 1 - comeTo[i]);
             }
-            about("age", x, Ways.AGE, tick - comeTo[next]);
         }
     }
 
@@ -648,6 +652,19 @@ public final class StageEdgesTest {
             Due.is("the other has none", x.about(1 - m, Ways.CAUSE), 0);
             x.module(m, 1);
             Due.is("no RED of a DEAD one", x.run(1), 1);
+        }
+    }
+
+    /** "4 RED": with all gears UP it is alone, and with one between it is beside ORANGE. */
+    private static void redWithoutGreen() {
+        int[][] lights = {{40, 1, 5}, {55, 2, 6}, {70, 0, 4}, {150, 0, 4}};
+        for (int[] row : lights) {
+            LandingGears x = Ways.goingUp();
+            x.channel(17, 0, 2);
+            Ways.to(x, row[0]);
+            Due.is("before the ANOMALY", x.lights(), row[1]);
+            x.channel(17, 1, 2);
+            Due.is("with it", x.run(1), row[2]);
         }
     }
 

@@ -17,12 +17,14 @@ public final class WatchEdgesTest {
         cause6InThisTickToo();
         cause6CountsAnew();
         cause7FromTheSeventieth();
+        cause7WithAllOpen();
         cause7CountsAnew();
         cause8FromTheSeventieth();
         cause8OnlyWhereItCameFrom();
         cause8CountsAnew();
         cause9FromTheHundredth();
         cause9BothWays();
+        cause9Borne();
         theFirstOfSeveral();
         forGood();
         theFirstStays();
@@ -248,6 +250,15 @@ public final class WatchEdgesTest {
         }
     }
 
+    /** "some is not seen SHUT": with all of them seen OPEN still it is the same. */
+    private static void cause7WithAllOpen() {
+        LandingGears x = Ways.goingUp();
+        x.valve(2, 1);
+        due("CLOSE never fed, the 69th", x, 136, 0);
+        Due.is("OPEN", x.plant(0) + x.plant(1) + x.plant(2), 45);
+        due("CLOSE never fed, the 70th", x, 137, 7);
+    }
+
     private static void cause7CountsAnew() {
         LandingGears x = Ways.goingUpTo(80);
         x.cylinder(1, 1);
@@ -339,6 +350,17 @@ public final class WatchEdgesTest {
             Ways.blind(seen, 12 + k, 0);
             due("seen UP in the 100th", seen, 141, 0);
             Ways.stage("HELD", seen, 4, 0);
+        }
+    }
+
+    /** What is borne is no matter of the watch. */
+    private static void cause9Borne() {
+        for (int bits = 0; bits <= 7; bits += 7) {
+            LandingGears x = Ways.goingUpTo(60);
+            x.cylinder(3, 1);
+            x.ground(bits);
+            due("borne " + bits + ", the 99th", x, 140, 0);
+            due("borne " + bits + ", the 100th", x, 141, 9);
         }
     }
 
